@@ -38,7 +38,7 @@ public final class PassScreener {
     private static final int BODY_NUMBERS = 9;
 
     private final Tape tape = new Tape();
-    private final SkyReader reader = new SkyReader();
+    private final SkyReader reader = new SkyReader(tape);
     private final Sky state = new Sky();
     private final Sieves sieves = new Sieves(state);
     private final Pairs pairs = new Pairs(state);
@@ -75,7 +75,7 @@ public final class PassScreener {
     }
 
     public int sky() {
-        int statements = reader.read(tape);
+        int statements = reader.read();
         tape.length = 0;
         if (statements == NONE) {
             return refuse(1);
@@ -597,14 +597,17 @@ public final class PassScreener {
         int count;
         final int[] names = new int[BODIES_MOST];
         final int[][] rows = new int[BODIES_MOST][BODY_NUMBERS];
-        private Tape text;
+        private final Tape text;
         private int at;
         private boolean needsBlank;
         private int value;
 
+        SkyReader(Tape text) {
+            this.text = text;
+        }
+
         /** How many statements there are; NONE with a fault. */
-        int read(Tape tape) {
-            text = tape;
+        int read() {
             at = 0;
             count = 0;
             needsBlank = false;
@@ -886,6 +889,17 @@ public final class PassScreener {
             return x * x + y * y + z * z;
         }
 
+        /** Most places are off by x alone already, so that is looked at first. */
+        boolean isWithin(int gap, int step, Body other, int otherStep) {
+            int x = xs[step] - other.xs[otherStep];
+            if (x > gap || x < -gap) {
+                return false;
+            }
+            int y = ys[step] - other.ys[otherStep];
+            int z = zs[step] - other.zs[otherStep];
+            return x * x + y * y + z * z <= gap * gap;
+        }
+
         int leanFrom(Body other, int step) {
             int tilt = other.numbers[TILT];
             int turnedY;
@@ -946,9 +960,9 @@ public final class PassScreener {
                 int step = (from + k) % turn;
                 int otherStep = Math.floorMod(step - offset, shared);
                 for (; otherStep < other.turn && shared > 0; otherStep += shared) {
+                    // Searches spend their time here: most places are off by x alone, and need no call.
                     int x = xs[step] - other.xs[otherStep];
-                    // Most places are off by x alone already.
-                    if (x <= gap && x >= -gap && distance(step, other, otherStep) <= gap * gap) {
+                    if (x <= gap && x >= -gap && isWithin(gap, step, other, otherStep)) {
                         return step;
                     }
                 }
@@ -988,7 +1002,7 @@ public final class PassScreener {
             return kind < KIND_TILT ? 2 * d : 3 * d;
         }
 
-        /** Of the one or two d with which a kind costs so much, the lesser (0) or the greater (1); NONE if there is none. */
+        /** Of the one or two d with which a kind costs so much, the lesser (0) or the greater (1); NONE without one. */
         int burnAtCost(int kind, int cost, int which) {
             if (kind <= KIND_LIFT) {
                 int back = turn - cost;
@@ -1515,9 +1529,7 @@ public final class PassScreener {
             for (int step = 0; step < one.turn; step++) {
                 int offset = step % shared;
                 for (int otherStep = 0; otherStep < other.turn; otherStep++) {
-                    int x = one.xs[step] - other.xs[otherStep];
-                    if (x <= sky.gap && x >= -sky.gap
-                            && one.distance(step, other, otherStep) <= sky.gap * sky.gap) {
+                    if (one.isWithin(sky.gap, step, other, otherStep)) {
                         nearByOffset[offset] = true;
                     }
                     offset = offset > 0 ? offset - 1 : shared - 1;
@@ -1742,9 +1754,7 @@ public final class PassScreener {
             for (int metStep = 0; metStep < met.turn; metStep++) {
                 hits[metStep] = 0;
                 for (int step = 0; step < phased.turn; step++) {
-                    int x = phased.xs[step] - met.xs[metStep];
-                    if (x <= sky.size && x >= -sky.size
-                            && phased.distance(step, met, metStep) <= sky.size * sky.size) {
+                    if (phased.isWithin(sky.size, step, met, metStep)) {
                         hits[metStep] |= 1L << step;
                     }
                 }
@@ -1779,12 +1789,10 @@ public final class PassScreener {
 
         private boolean crashesWith(Body met, int upTicks) {
             int ticks = tried.shellIsOff(met, sky.size) ? 0 : Math.min(upTicks, tried.cycleWith(met));
-            int limit = sky.size * sky.size;
             int step = tried.stepAt(sky.now);
             int metStep = met.stepAt(sky.now);
             for (int tick = 0; tick < ticks; tick++) {
-                int x = tried.xs[step] - met.xs[metStep];
-                if (x <= sky.size && x >= -sky.size && tried.distance(step, met, metStep) <= limit) {
+                if (tried.isWithin(sky.size, step, met, metStep)) {
                     return true;
                 }
                 step = step + 1 < tried.turn ? step + 1 : 0;

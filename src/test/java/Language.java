@@ -221,7 +221,7 @@ final class Language extends TreePathScanner<Void, Void> {
 
     @Override
     public Void visitNewClass(NewClassTree tree, Void nothing) {
-        if (method != null && method.getSimpleName().toString().equals("<init>") == false) {
+        if (method != null && !method.getSimpleName().contentEquals("<init>")) {
             note(tree, "a call makes an object");
         }
         return super.visitNewClass(tree, nothing);
@@ -237,8 +237,7 @@ final class Language extends TreePathScanner<Void, Void> {
 
     @Override
     public Void visitArrayType(ArrayTypeTree tree, Void nothing) {
-        if (tree.getType() instanceof ArrayTypeTree inner
-                && (inner.getType() instanceof ArrayTypeTree || inner.getType().getKind() != Tree.Kind.PRIMITIVE_TYPE)) {
+        if (tree.getType() instanceof ArrayTypeTree inner && inner.getType().getKind() != Tree.Kind.PRIMITIVE_TYPE) {
             note(tree, "rule 3: dimensions");
         }
         return super.visitArrayType(tree, nothing);
