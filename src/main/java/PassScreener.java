@@ -1834,9 +1834,9 @@ public final class PassScreener {
 
         /** Whether the tried one is near none. A first glance at a step of each often spares the long look at all. */
         private boolean isClear(int body) {
-            for (int steps = 1; steps <= TURN_MOST; steps += TURN_MOST - 1) {
+            for (int look = 0; look < 2; look++) {
                 for (int other = 0; other < sky.count; other++) {
-                    if (isInTheWay(body, other, steps)) {
+                    if (isInTheWay(body, other, look == 0 ? 1 : TURN_MOST)) {
                         return false;
                     }
                 }

@@ -52,6 +52,7 @@ final class Promises {
         promises.saves();
         promises.tries();
         promises.clears();
+        promises.searches();
         promises.clearing();
         promises.twice();
         promises.room();
@@ -339,6 +340,24 @@ final class Promises {
         due("13: UP or not", s.sieve(1, 2), 3);
         due("13: of one", s.sieve(2, 2), NONE);
         due("13: of none", s.sieve(0, 4), NONE);
+        PassScreener n = Kit.skyOf(FOUR);
+        n.gap(2);
+        due("13: a and c", n.sieve(0, 2), 0);
+        n.burn(0, 0, 1);
+        due("13: found anew behind a burn, as b and c", n.sieve(0, 2), 3);
+        n.burn(0, 2, 4);
+        due("13: found anew, 8 and 4", n.sieve(0, 1), 0);
+        n.undo();
+        n.undo();
+        due("13: a and c again", n.sieve(0, 2), 0);
+        n.burn(2, 0, 1);
+        due("13: found anew behind a burn of the other one", n.sieve(0, 2), 3);
+        n.undo();
+        n.burn(0, 0, 1);
+        n.burn(0, 2, 4);
+        n.undo();
+        n.undo();
+        due("13: found anew behind undo()", n.sieve(0, 2), 0);
         PassScreener t = Kit.skyOf(TWO);
         due("15: all ticks of the cycle", t.times(0, 1, NONE), 12);
         due("15: the last of them", t.times(1, 0, 11), 11);
@@ -711,12 +730,16 @@ final class Promises {
         }
         due("31: 40 are told of 42", t.has(12), 40);
         due("31: the oldest told", t.kept(0, 0), 2);
-        due("31: the latest", t.kept(39, 0), 41);
-        due("31: a pair", t.kept(39, 1), 6);
+        for (int k = 0; k < 40; k++) {
+            due("31: told, " + k, t.kept(k, 0), k + 2);
+            due("31: a pair, " + k, t.kept(k, 1), 6);
+        }
         due("31: no more", t.kept(40, 0), NONE);
         t.undo();
         due("31: undone, the oldest is told again", t.kept(0, 0), 1);
-        due("31: undone", t.kept(39, 0), 40);
+        for (int k = 0; k < 40; k++) {
+            due("31: undone, " + k, t.kept(k, 0), k + 1);
+        }
         t.ticks(5);
         due("31: once more", t.kept(39, 0), 41);
         due("31: once more", t.kept(0, 0), 2);
@@ -874,6 +897,44 @@ final class Promises {
         due("37: to b is no use, the other way is", t.clears(0, 0), 0);
         due("37: d", t.clears(0, 1), 3);
         due("37: cost", t.clears(0, 2), 1);
+    }
+
+    /** Promises 35, 37, 38, 39: one search asked for behind another one of the same BODY. */
+    private void searches() {
+        PassScreener s = Kit.skyOf(TWO);
+        for (int round = 0; round < 2; round++) {
+            due("37: d", s.clears(0, 1), 4);
+            due("35: d", s.saves(0, 1), 1);
+            due("39: d", s.twice(0, 1), 1);
+            due("38: d", s.clearing(2), 4);
+            due("39: the other d", s.twice(0, 3), 3);
+            due("35: cost", s.saves(0, 2), 2);
+            due("37: cost", s.clears(0, 2), 8);
+            due("37: another BODY", s.clears(1, 2), NONE);
+            due("37: cost", s.clears(0, 2), 8);
+            due("38: cost", s.clearing(3), 8);
+        }
+        // A turn of 2: half of it is the only other phase.
+        PassScreener t = Kit.skyOf("gap 0 size 0;" + Kit.body("a", 4, 4, 2, 0, 0, 0, 0, 9)
+                + Kit.body("b", 4, 4, 2, 0, 0, 0, 0, 0));
+        due("37: KIND", t.clears(0, 0), 0);
+        due("37: d", t.clears(0, 1), 1);
+        due("35: d", t.saves(0, 1), 1);
+        due("38: BODY", t.clearing(0), 0);
+        due("39: PHASE twice leads back, a LIFT besides does not", t.twice(0, 2), 1);
+        due("39: both", t.twice(0, 4), 2);
+        // a: (180,0) (0,180) (-180,0) (0,-180), the other (0,180) (-120,-60) (120,-120): they meet at (0,180). A height
+        // of 11 more costs 22; a tilt of 1 leads to (0,168,11) and costs 3.
+        PassScreener u = Kit.skyOf("gap 10 size 10;" + Kit.body("a", 180, 180, 4, 0, 0, 0, 0, 99)
+                + Kit.body("b", 180, 180, 3, 0, 0, 0, 1, 0));
+        due("37: KIND", u.clears(0, 0), 4);
+        due("37: d", u.clears(0, 1), 1);
+        due("37: cost", u.clears(0, 2), 3);
+        due("35: KIND", u.saves(0, 0), 4);
+        due("38: KIND", u.clearing(1), 4);
+        due("39: one more is PHASE", u.twice(0, 0), 0);
+        due("39: and TILT", u.twice(0, 2), 4);
+        due("39: both", u.twice(0, 4), 4);
     }
 
     /** Promise 38. */
@@ -1041,6 +1102,13 @@ final class Promises {
         due("44: costs 1", s.burn(0, 0, 11), 0);
         due("44: PHASE", s.body(0, 3), 0);
         due("44: costs 1", s.burn(0, 0, 1), NONE);
+        PassScreener t = Kit.skyOf("gap 1 size 0;" + Kit.body("a", 100, 190, 12, 3, 5, 8, 0, 99));
+        due("44: HIGH beyond 200", t.burn(0, 2, 11), NONE);
+        due("44: HIGH up to 200", t.burn(0, 2, 10), 79);
+        due("44: HIGH", t.body(0, 1), 200);
+        due("44: TILT below 0", t.burn(0, 5, 9), NONE);
+        due("44: TILT down to 0", t.burn(0, 5, 8), 55);
+        due("44: TILT", t.body(0, 5), 0);
         due("44: HIGH is 200", s.burn(1, 2, 1), NONE);
         due("44: LOW is 1", s.burn(1, 3, 1), NONE);
         due("44: TILT is 0", s.burn(1, 5, 1), NONE);

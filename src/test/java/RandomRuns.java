@@ -62,7 +62,11 @@ final class RandomRuns {
             }
         }
         while (calls.size() < CALLS_MOST - 60 && wrong == 0) {
-            tellSky();
+            if (below(4) == 0) {
+                search();
+                continue;
+            }
+            tellSky(skyText());
             int more = 40 + below(200);
             for (int k = 0; k < more && calls.size() < CALLS_MOST - 60 && wrong == 0; k++) {
                 callAny();
@@ -127,8 +131,56 @@ final class RandomRuns {
         call("end", bytes.length);
     }
 
-    private void tellSky() throws Exception {
-        String text = skyText();
+    /** A small sky whose searches are asked for in any order, so that one could be taken for another. */
+    private void search() throws Exception {
+        tellSky(searchedText());
+        int bodies = model.bodies.size();
+        for (int k = 0; k < 40 && wrong == 0; k++) {
+            int body = below(bodies);
+            switch (below(10)) {
+                case 0 -> call("clears", body, below(3));
+                case 1, 2 -> call("saves", body, below(3));
+                case 3, 4 -> call("twice", body, below(5));
+                case 5 -> call("clearing", below(4));
+                case 6 -> call("odds", body, 1 + below(below(2) == 0 ? 400 : 20));
+                case 7 -> call("tries", body, below(6), 1 + below(16));
+                case 8 -> call("sieve", body, below(bodies));
+                default -> {
+                    if (below(3) == 0) {
+                        String[] acts = {"burn", "up", "gap", "ticks", "chance", "undo"};
+                        String name = acts[below(acts.length)];
+                        for (Method method : methods) {
+                            if (method.getName().equals(name)) {
+                                call(name, arguments(method));
+                            }
+                        }
+                    }
+                }
+            }
+        }
+    }
+
+    /** Bodies that meet often, at heights at which a burn of any kind may be the one that helps. */
+    private String searchedText() {
+        int bodies = 2 + below(3);
+        boolean isHigh = below(2) == 0;
+        int base = isHigh ? 100 + below(60) : 1 + below(20);
+        int gap = isHigh ? 4 + below(20) : below(6);
+        int[] turns = {2, 3, 4, 4, 5, 6, 7, 8, 12};
+        StringBuilder text = new StringBuilder();
+        text.append("gap ").append(gap).append(" size ").append(below(2) == 0 ? Math.min(20, gap) : below(4)).append(';');
+        for (int b = 0; b < bodies; b++) {
+            int low = base + below(below(2) == 0 ? 2 : 12);
+            int high = Math.min(200, low + (below(2) == 0 ? 0 : below(40)));
+            int turn = turns[below(turns.length)];
+            int tilt = below(3) == 0 ? 16 * below(2) : below(17);
+            text.append(Kit.body("" + (char) ('a' + b), low, high, turn, below(turn), below(turn), tilt, below(4),
+                    below(4) == 0 ? below(12) : below(100)));
+        }
+        return text.toString();
+    }
+
+    private void tellSky(String text) throws Exception {
         if (below(8) == 0) {
             StringBuilder spoilt = new StringBuilder(text);
             int at = below(text.length());
