@@ -333,7 +333,7 @@ public final class PassScreener {
         if (!state.isUp(body)) {
             return NONE;
         }
-        ahead.cast(state.upBits(), state.size);
+        ahead.cast(state.upBits(), state.size, AHEAD_MOST);
         return ahead.run(body, AHEAD_MOST);
     }
 
@@ -341,7 +341,7 @@ public final class PassScreener {
         if (n < 0 || n > AHEAD_MOST || !state.isTold) {
             return NONE;
         }
-        ahead.cast(state.upBits(), state.size);
+        ahead.cast(state.upBits(), state.size, n);
         ahead.run(NONE, n);
         return ahead.alive;
     }
@@ -1343,6 +1343,10 @@ public final class PassScreener {
             return leastFars[pair];
         }
 
+        boolean isLookedAt(int one, int other) {
+            return leastFars[pairOf(one, other)] != NONE;
+        }
+
         int closestTick(int one, int other) {
             leastFar(one, other);
             return closestTicks[pairOf(one, other)];
@@ -1575,20 +1579,29 @@ public final class PassScreener {
             this.pairs = pairs;
         }
 
-        /** Casts bodies that are up, as bits; pairs that never come within so much are left out. */
-        void cast(int bits, int within) {
+        /** Casts bodies that are up, as bits, for some ticks; pairs that can't come within so much are left out. */
+        void cast(int bits, int within, int ticks) {
             alive = bits;
             for (int one = 0; one < sky.count; one++) {
                 int others = (bits >> one & 1) == 1 ? bits : 0;
                 mates[one] = 0;
                 for (int other = one + 1; other < sky.count; other++) {
-                    if ((others >> other & 1) == 1 && !sky.bodies[one].shellIsOff(sky.bodies[other], within)
-                            && pairs.leastFar(one, other) <= within * within) {
+                    if ((others >> other & 1) == 1 && mayMeet(one, other, within, ticks)) {
                         mates[one] |= 1 << other;
                     }
                 }
             }
             findConcerned();
+        }
+
+        /** For fewer ticks than a cycle has, it is not worth while to look at the cycle. */
+        private boolean mayMeet(int one, int other, int within, int ticks) {
+            Body body = sky.bodies[one];
+            if (body.shellIsOff(sky.bodies[other], within)) {
+                return false;
+            }
+            boolean isLeftOpen = !pairs.isLookedAt(one, other) && ticks < body.cycleWith(sky.bodies[other]);
+            return isLeftOpen || pairs.leastFar(one, other) <= within * within;
         }
 
         private void findConcerned() {
@@ -1674,7 +1687,7 @@ public final class PassScreener {
 
         /** Leaves in meeting the tick, the two, and how far, of those that come near next. */
         boolean findMeeting() {
-            cast(sky.upBits(), sky.gap);
+            cast(sky.upBits(), sky.gap, AHEAD_MOST);
             for (int tick = 0; tick <= AHEAD_MOST && concerned != 0; tick++) {
                 placeConcerned(sky.now + tick);
                 if (someMeet()) {
@@ -1732,7 +1745,7 @@ public final class PassScreener {
 
         /** Until a body crashes it changes nothing for the others: what it meets is how these go on without it. */
         private void runWithout(int body, int ticks) {
-            ahead.cast(sky.upBits() & ~(1 << body), sky.size);
+            ahead.cast(sky.upBits() & ~(1 << body), sky.size, ticks);
             ahead.run(NONE, ticks);
         }
 
@@ -1846,7 +1859,7 @@ public final class PassScreener {
 
         boolean findSaving(int body) {
             if (isNew(SAVE, body)) {
-                ahead.cast(sky.upBits(), sky.size);
+                ahead.cast(sky.upBits(), sky.size, TRIED_AHEAD_MOST);
                 boolean crashes = ahead.run(body, TRIED_AHEAD_MOST) != NONE;
                 runWithout(body, TRIED_AHEAD_MOST);
                 isFound = crashes && seek(1 << body, SAVE);

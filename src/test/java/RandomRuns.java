@@ -168,7 +168,8 @@ final class RandomRuns {
         int gap = isHigh ? 4 + below(20) : below(6);
         int[] turns = {2, 3, 4, 4, 5, 6, 7, 8, 12};
         StringBuilder text = new StringBuilder();
-        text.append("gap ").append(gap).append(" size ").append(below(2) == 0 ? Math.min(20, gap) : below(4)).append(';');
+        int size = below(2) == 0 ? Math.min(20, gap) : below(4);
+        text.append("gap ").append(gap).append(" size ").append(size).append(';');
         for (int b = 0; b < bodies; b++) {
             int low = base + below(below(2) == 0 ? 2 : 12);
             int high = Math.min(200, low + (below(2) == 0 ? 0 : below(40)));

