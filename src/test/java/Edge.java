@@ -63,6 +63,15 @@ abstract class Edge {
         return Kit.body(name, height, height, 2, phase, 0, 0, 0, fuel);
     }
 
+    /** A sky of a GAP, a SIZE, and BODIES by their numbers as a text tells them. */
+    static PassScreener skyBy(int gap, int size, int[]... bodies) {
+        StringBuilder text = new StringBuilder("gap " + gap + " size " + size + ";");
+        for (int k = 0; k < bodies.length; k++) {
+            text.append(Kit.body(String.valueOf((char) ('a' + k)), bodies[k]));
+        }
+        return Kit.skyOf(text.toString());
+    }
+
     /** Ten BODIES named by one letter each, 15 apart from each other. */
     static String tenBodies() {
         StringBuilder text = new StringBuilder();

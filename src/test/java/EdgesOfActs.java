@@ -237,6 +237,15 @@ final class EdgesOfActs extends Edge {
             dueSame("a burn undone", s, before);
             due("spot(.., 5, 0)", s.spot(act[0], 5, 0), place);
         }
+        PassScreener t = Kit.skyOf("gap 0 size 0;" + shuttle("a", 50, 0, 90) + shuttle("b", 50, 0, 9));
+        due("sieve(0, 1)", t.sieve(0, 1), 0);
+        due("closest(0, 1, 1)", t.closest(0, 1, 1), 0);
+        t.burn(1, 2, 2);
+        due("sieve(0, 1) behind a burn", t.sieve(0, 1), 1);
+        due("closest(0, 1, 1) behind a burn", t.closest(0, 1, 1), 4);
+        t.undo();
+        due("sieve(0, 1), the burn being undone", t.sieve(0, 1), 0);
+        due("closest(0, 1, 1), the burn being undone", t.closest(0, 1, 1), 0);
         String before = stateOf(s);
         s.up(1, false);
         s.undo();

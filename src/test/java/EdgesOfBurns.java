@@ -15,6 +15,7 @@ final class EdgesOfBurns extends Edge {
         edges.tries();
         edges.clears();
         edges.clearsChoice();
+        edges.clearsByEachKind();
         edges.clearing();
         edges.twice();
         edges.twiceChoice();
@@ -171,6 +172,15 @@ final class EdgesOfBurns extends Edge {
         due("tries(0, 2, 9): the other is down", s.tries(0, 2, 9), 0);
         due("body(0, 0): nothing is done", s.body(0, 0), 100);
         due("has(6): nothing is done", s.has(6), 1);
+        // By its NODE the other one is a step ahead on the same ring: one step more meets it, one less does not.
+        PassScreener t = Kit.skyOf("gap 0 size 0;" + Kit.body("a", 10, 10, 4, 0, 0, 0, 0, 9)
+                + Kit.body("b", 10, 10, 4, 0, 0, 0, 1, 9));
+        int[] near = {1, 0, 0};
+        int[] nearOfOther = {0, 0, 1};
+        for (int d = 1; d <= 3; d++) {
+            due("tries(0, 0, " + d + ")", t.tries(0, 0, d), near[d - 1]);
+            due("tries(1, 0, " + d + ")", t.tries(1, 0, d), nearOfOther[d - 1]);
+        }
         by(36, "NONE when it can't be, is down, or there is none such.");
         due("tries(1, 0, 1): it is down", s.tries(1, 0, 1), NONE);
         due("tries(2, 0, 1): no FUEL", s.tries(2, 0, 1), NONE);
@@ -225,6 +235,16 @@ final class EdgesOfBurns extends Edge {
         // All six that cost up to 2 are no use by 1: 3 costs 3.
         text += Kit.body("e", 80, 80, 8, 2, 0, 0, 0, 9) + Kit.body("f", 80, 80, 8, 6, 0, 0, 0, 9);
         cleared(Kit.skyOf("gap 1 size 0;" + text), 0, 0, 3, 3);
+    }
+
+    /** One sky for each KIND but the first, in which it is the cheapest. */
+    private void clearsByEachKind() {
+        by(37, "The CHEAPEST BURN of a BODY that CLEARS it");
+        cleared(skyBy(0, 5, new int[] {6, 8, 5, 2, 1, 4, 2, 30}, new int[] {4, 7, 3, 2, 1, 7, 2, 0}), 0, 1, 1, 1);
+        cleared(skyBy(1, 1, new int[] {1, 7, 6, 0, 0, 0, 0, 30}, new int[] {1, 2, 8, 0, 1, 3, 2, 0}), 0, 2, 2, 4);
+        cleared(skyBy(3, 0, new int[] {5, 6, 8, 7, 6, 5, 0, 30}, new int[] {7, 7, 3, 2, 1, 0, 1, 0}), 0, 3, 3, 6);
+        cleared(skyBy(2, 5, new int[] {4, 6, 5, 2, 3, 5, 1, 30}, new int[] {2, 8, 6, 5, 2, 0, 2, 0}), 0, 4, 3, 9);
+        cleared(skyBy(6, 4, new int[] {4, 7, 6, 3, 5, 1, 1, 30}, new int[] {7, 7, 6, 5, 5, 6, 1, 0}), 0, 5, 1, 3);
     }
 
     private void clearedAll(PassScreener s, int... due) {
@@ -314,6 +334,19 @@ final class EdgesOfBurns extends Edge {
         PassScreener u = Kit.skyOf(text.toString());
         two(u, 0, 0, 1, 2, 1, 3);
         due("clears(0, 1): back by 1, which is 11", u.clears(0, 1), 11);
+        // Heights that fill all that a text may tell can't go up or down: TILTS are left, the dearest of which cost 30.
+        int[] cost30 = {1, 200, 7, 2, 4, 2, 2, 99};
+        two(skyBy(29, 0, cost30, new int[] {45, 102, 8, 2, 0, 0, 1, 0}), 0, 4, 5, 4, 5, 30);
+        cost30[7] = 30;
+        two(skyBy(29, 0, cost30, new int[] {45, 102, 8, 2, 0, 0, 1, 0}), 0, 4, 5, 4, 5, 30);
+        cost30[7] = 29;
+        two(skyBy(29, 0, cost30, new int[] {45, 102, 8, 2, 0, 0, 1, 0}), 0, NONE, NONE, NONE, NONE, NONE);
+        two(skyBy(28, 0, new int[] {1, 200, 7, 1, 2, 0, 2, 99}, new int[] {52, 124, 8, 5, 6, 0, 1, 0}), 0, 4, 4, 4, 5, 27);
+        two(skyBy(9, 0, new int[] {1, 200, 8, 1, 2, 5, 0, 99}, new int[] {1, 200, 8, 7, 1, 16, 0, 0},
+                new int[] {13, 58, 5, 0, 2, 7, 1, 0}), 0, 1, 4, 5, 5, 19);
+        // The lesser KIND is first, though its d is greater; of one KIND the lesser d.
+        two(skyBy(7, 3, new int[] {6, 9, 5, 0, 2, 6, 0, 30}, new int[] {2, 2, 5, 0, 0, 4, 1, 0}), 0, 0, 4, 2, 3, 7);
+        two(skyBy(2, 1, new int[] {1, 9, 4, 0, 3, 8, 3, 30}, new int[] {2, 6, 5, 2, 0, 4, 3, 0}), 0, 2, 1, 2, 2, 6);
     }
 
     private int roomOf(int one, int other) {

@@ -15,6 +15,7 @@ final class EdgesOfCrashes extends Edge {
         edges.odds();
         edges.saves();
         edges.savesChoice();
+        edges.savesByEachKind();
         edges.aheadOfTheLastTick();
         edges.manyCalls();
         edges.close(args);
@@ -47,6 +48,19 @@ final class EdgesOfCrashes extends Edge {
         v.ticks(1);
         due("stays(0): all ten at once", v.stays(0), 0);
         due("kept(0, 1)", v.kept(0, 1), 1023);
+        // Upright rings: apart in z alone at even TICKS, by 10 and by 4, in x alone at odd ones.
+        String upright = Kit.body("a", 5, 5, 4, 1, 0, 16, 0, 9) + Kit.body("b", 5, 5, 4, 3, 0, 16, 0, 9)
+                + Kit.body("c", 9, 9, 4, 1, 0, 16, 0, 9);
+        PassScreener x = Kit.skyOf("gap 3 size 3;" + upright);
+        due("stays(2400): 4 is more than SIZE", x.stays(2400), 7);
+        due("next(0): 4 is more than GAP", x.next(0), NONE);
+        x.ticks(9);
+        due("stays(0)", x.stays(0), 7);
+        PassScreener y = Kit.skyOf("gap 4 size 4;" + upright);
+        due("next(2)", y.next(2), 2);
+        due("next(3)", y.next(3), 16);
+        y.ticks(1);
+        due("kept(0, 1)", y.kept(0, 1), 5);
         by(0, "NOW is one more (9999 at most)");
         PassScreener w = meetingAt(9998, 9);
         w.up(0, false);
@@ -94,6 +108,28 @@ final class EdgesOfCrashes extends Edge {
         s.undo();
         due("kept(0, 0): the older one is told again", s.kept(0, 0), 1);
         due("kept(39, 0): the latest one is not", s.kept(39, 0), 40);
+        // Three in turns, so that each row has other BODIES than the one ahead of it.
+        PassScreener t = Kit.skyOf("gap 0 size 0;" + shuttle("a", 10, 0, 9) + shuttle("b", 10, 0, 9)
+                + shuttle("c", 10, 0, 9));
+        for (int crash = 0; crash < 43; crash++) {
+            for (int body = 0; body < 3; body++) {
+                t.up(body, body != crash % 3);
+            }
+            t.ticks(1);
+        }
+        for (int k = 0; k < 40; k++) {
+            due("kept(" + k + ", 0) of 43", t.kept(k, 0), k + 3);
+            due("kept(" + k + ", 1) of 43", t.kept(k, 1), 7 - (1 << k % 3));
+        }
+    }
+
+    /** BODIES on one ring of four steps, by their PHASES. */
+    private static String ringOf(int height, int... phases) {
+        StringBuilder text = new StringBuilder();
+        for (int k = 0; k < phases.length; k++) {
+            text.append(Kit.body(String.valueOf((char) ('a' + k)), height, height, 4, phases[k], 0, 0, 0, 9));
+        }
+        return text.toString();
     }
 
     private void doom() {
@@ -167,6 +203,26 @@ final class EdgesOfCrashes extends Edge {
         PassScreener u = Kit.skyOf("gap 0 size 0;" + shuttle("a", 10, 0, 9) + shuttle("b", 10, 0, 9)
                 + shuttle("c", 10, 1, 9));
         due("odds(0, 1)", u.odds(0, 1), 0);
+        // The other has 48 steps: it is where both could meet at 15 and 48 more each time, nine times by 399.
+        PassScreener v = meetingAt(399, 9);
+        due("odds(1, 400)", v.odds(1, 400), 38);
+        due("odds(1, 399)", v.odds(1, 399), 39);
+        due("odds(1, 15)", v.odds(1, 15), 47);
+        due("odds(1, 16)", v.odds(1, 16), 46);
+        // Long behind the first TURN it is as at the beginning.
+        PassScreener w = Kit.skyOf("gap 0 size 0;" + shuttle("a", 10, 0, 9) + shuttle("b", 10, 0, 9));
+        w.up(1, false);
+        for (int tick = 1; tick <= 12; tick++) {
+            w.ticks(1);
+            w.up(1, true);
+            due("odds(0, 1) at " + tick, w.odds(0, 1), 1);
+            due("odds(1, 400) at " + tick, w.odds(1, 400), 1);
+            w.up(1, false);
+        }
+        // Those that crash with one another take along who is there at that very TICK, and nobody later.
+        PassScreener x = Kit.skyOf("gap 0 size 0;" + ringOf(90, 0, 0, 0));
+        due("odds(0, 1) where two crash", x.odds(0, 1), 3);
+        due("odds(0, 400) where two crash", x.odds(0, 400), 3);
         by(34, "NONE when n can't be, it is down, or there is none such.");
         for (int n : new int[] {0, -1, 401, MAX, MIN}) {
             due("odds(0, " + n + ")", s.odds(0, n), NONE);
@@ -237,6 +293,26 @@ final class EdgesOfCrashes extends Edge {
         saved(Kit.skyOf("gap 0 size 3;" + full), 0, 2, 4, 8);
         saved(Kit.skyOf("gap 0 size 3;" + full.replaceFirst("fuel 9", "fuel 8")), 0, 2, 4, 8);
         saved(Kit.skyOf("gap 0 size 3;" + full.replaceFirst("fuel 9", "fuel 7")), 0, NONE, NONE, NONE);
+        // A step more leads to two that crash with one another at that very TICK: one less is free.
+        saved(Kit.skyOf("gap 0 size 0;" + ringOf(90, 0, 0, 1, 1)), 0, 0, 3, 1);
+        // The last of eight steps is taken by the first BODY, the second one by the third.
+        StringBuilder eight = new StringBuilder("gap 0 size 0;");
+        int[] phases = {7, 0, 1, 0};
+        for (int k = 0; k < 4; k++) {
+            eight.append(Kit.body(String.valueOf((char) ('a' + k)), 90, 90, 8, phases[k], 0, 0, 0, 9));
+        }
+        saved(Kit.skyOf(eight.toString()), 3, 0, 2, 2);
+        saved(Kit.skyOf(eight.toString()), 1, 0, 2, 2);
+    }
+
+    /** One sky for each KIND but the first, in which it is the cheapest. */
+    private void savesByEachKind() {
+        by(35, "The CHEAPEST BURN of a BODY that SAVES it: 0 KIND, 1 d, 2 what it costs.");
+        saved(skyBy(5, 2, new int[] {1, 6, 7, 2, 4, 8, 2, 30}, new int[] {4, 7, 6, 0, 4, 0, 2, 0}), 0, 1, 5, 2);
+        saved(skyBy(7, 5, new int[] {4, 7, 2, 0, 1, 5, 1, 30}, new int[] {1, 3, 6, 0, 4, 7, 3, 0}), 0, 2, 3, 6);
+        saved(skyBy(2, 2, new int[] {2, 3, 5, 0, 4, 9, 0, 30}, new int[] {5, 8, 7, 1, 1, 1, 2, 0}), 0, 3, 1, 2);
+        saved(skyBy(5, 2, new int[] {2, 3, 4, 0, 1, 7, 1, 30}, new int[] {2, 8, 3, 2, 0, 2, 0, 0}), 0, 4, 2, 6);
+        saved(skyBy(1, 4, new int[] {3, 5, 4, 2, 2, 9, 2, 30}, new int[] {6, 9, 6, 2, 2, 8, 0, 0}), 0, 5, 1, 3);
     }
 
     private void aheadOfTheLastTick() {

@@ -120,6 +120,20 @@ final class EdgesOfImages extends Edge {
         due("letter(2, 0)", s.letter(2, 0), 3);
         Kit.tape(s, image);
         due("on() again, all being so", s.on(), true);
+        PassScreener t = Kit.skyOf("gap 0 size 0;" + shuttle("a", 50, 0, 90) + shuttle("b", 50, 0, 9));
+        due("sieve(0, 1)", t.sieve(0, 1), 0);
+        due("closest(0, 1, 1)", t.closest(0, 1, 1), 0);
+        Kit.tape(t, sealed(3, 1, 50, 50, 0, 0, 0, 90, 1, 60, 60, 0, 0, 0, 9));
+        due("on()", t.on(), true);
+        due("sieve(0, 1) behind on()", t.sieve(0, 1), 1);
+        due("closest(0, 1, 1) behind on()", t.closest(0, 1, 1), 100);
+        PassScreener full = Kit.skyOf("gap 3 size 0;" + tenBodies());
+        int[] ten = imageOf(full);
+        full.up(9, false);
+        full.burn(8, 2, 1);
+        Kit.tape(full, ten);
+        due("on() of ten", full.on(), true);
+        due("on() of ten: as it was painted", Arrays.equals(imageOf(full), ten), true);
     }
 
     private void onRange() {

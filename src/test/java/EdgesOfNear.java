@@ -324,6 +324,10 @@ final class EdgesOfNear extends Edge {
         due("crowded(1)", s.crowded(1), 1);
         s.up(2, false);
         due("crowded(0): 200 alone", s.crowded(0), 200);
+        PassScreener down = Kit.skyOf("gap 0 size 0;" + shuttle("a", 90, 0, 9) + shuttle("b", 50, 0, 9)
+                + shuttle("c", 70, 0, 9));
+        due("crowded(0): the least is told behind a higher one", down.crowded(0), 50);
+        due("crowded(1)", down.crowded(1), 1);
         by(30, "NONE when none is UP, or for others.");
         for (int what : new int[] {-1, 2, MAX, MIN}) {
             due("crowded(" + what + ")", s.crowded(what), NONE);

@@ -45,7 +45,57 @@ final class EdgesOfNumbers extends Edge {
         edges.call("up", 1, true);
         edges.call("up", 2, true);
         edges.grid();
+        edges.by(0, "10 BODIES, numbered from 0 on as told");
+        edges.tell(tenOnRings());
+        edges.grid();
+        edges.callTheLast();
+        // Two behind ten: what the eight that are gone left behind must not count.
+        edges.by(4, "Without one all is as told, NOW is 0, nothing is SEEN, KEPT, or can be undone; the seed stays.");
+        edges.tell("gap 4 size 1;" + Kit.body("a", 10, 10, 4, 0, 0, 0, 0, 9) + Kit.body("b", 10, 14, 3, 1, 0, 8, 2, 30));
+        edges.grid();
         edges.close(args);
+    }
+
+    /** Ten on rings of all the TURNS from 2 to 10 and of 48, some of which meet. */
+    private static String tenOnRings() {
+        StringBuilder text = new StringBuilder("gap 6 size 1;");
+        int[] turns = {2, 3, 4, 5, 6, 7, 8, 9, 10, 48};
+        for (int k = 0; k < 10; k++) {
+            text.append(Kit.body(String.valueOf((char) ('a' + k)), 20 + 5 * k, 30 + 7 * k, turns[k], k % turns[k],
+                    (k + 3) % turns[k], 16 * k % 17, k % 4, k));
+        }
+        return text.toString();
+    }
+
+    /** Acts of the last of ten, each with what is asked of it then. */
+    private void callTheLast() throws Exception {
+        Object[][] acts = {{"burn", 9, 0, 1}, {"burn", 9, 1, 3}, {"burn", 9, 3, 1}, {"up", 9, false}, {"up", 9, true},
+            {"gap", 40}, {"ticks", 48}, {"chance", 40}, {"undo"}, {"undo"}, {"undo"}};
+        for (Object[] act : acts) {
+            call((String) act[0], Arrays.copyOfRange(act, 1, act.length));
+            for (int what = 0; what < 15; what++) {
+                call("has", what);
+            }
+            for (int other = 0; other < 9; other++) {
+                call("sieve", 9, other);
+                call("closest", other, 9, 1);
+                call("tries", other, 0, 1);
+            }
+            call("doom", 9);
+            call("odds", 9, 40);
+            call("clears", 9, 2);
+            call("twice", 9, 4);
+            call("group", 9);
+            call("crowd", 70);
+        }
+        call("image");
+        int[] bytes = new int[72];
+        for (int k = 0; k < bytes.length; k++) {
+            bytes[k] = (int) call("octet", k);
+        }
+        feed(bytes);
+        call("on");
+        call("kept", 0, 0);
     }
 
     private void tell(String text) throws Exception {

@@ -154,6 +154,12 @@ final class EdgesOfPlaces extends Edge {
                 + shuttle("c", 200, 0, 0));
         due("far(0, 1, 0): as far as can be", t.far(0, 1, 0), 160000);
         due("far(0, 2, 0): at one place", t.far(0, 2, 0), 0);
+        // Upright rings, by steps (H,0,0) (0,0,H) (-H,0,0) (0,0,-H): apart in z alone, above and below 0.
+        PassScreener u = Kit.skyOf("gap 0 size 0;" + Kit.body("a", 7, 7, 4, 1, 0, 16, 0, 9)
+                + Kit.body("b", 7, 7, 4, 3, 0, 16, 0, 9) + Kit.body("c", 9, 9, 4, 1, 0, 16, 2, 9));
+        due("far(0, 1, 0): 7 above and 7 below", u.far(0, 1, 0), 196);
+        due("far(0, 2, 0): 7 and 9 above", u.far(0, 2, 0), 4);
+        due("far(1, 2, 2): 7 above and 9 below", u.far(1, 2, 2), 256);
         by(11, "NONE when they are one, or there are none such.");
         due("far(0, 0, 0)", s.far(0, 0, 0), NONE);
         due("far(1, 1, 9999)", s.far(1, 1, 9999), NONE);
@@ -236,6 +242,16 @@ final class EdgesOfPlaces extends Edge {
         due("window(2, 0, 0)", s.window(2, 0, 0), 1);
         s.gap(1);
         due("window(4, 0, -1): 17 is within 32", s.window(4, 0, NONE), 2);
+        // By a TILT of 16 the LEAN of (0, y, 0) is -16 y: a HEIGHT of GAP and 1 is within, one of GAP and 2 is not.
+        for (int gap : new int[] {0, 1, 2, 50, 98, 99}) {
+            PassScreener t = Kit.skyOf("gap " + gap + " size 0;" + Kit.body("n", 9, 9, 4, 0, 0, 16, 0, 9)
+                    + Kit.body("a", gap + 1, gap + 1, 4, 0, 0, 0, 0, 9)
+                    + Kit.body("b", gap + 2, gap + 2, 4, 0, 0, 0, 0, 9));
+            due("lean(1, 0, 3)", t.lean(1, 0, 3), 16 * gap + 16);
+            due("window(1, 0, -1) by " + gap, t.window(1, 0, NONE), 4);
+            due("window(2, 0, -1) by " + gap, t.window(2, 0, NONE), 2);
+            due("window(2, 0, 1) by " + gap, t.window(2, 0, 1), 2);
+        }
         // A PHASE turns the WINDOW: TICKS count, not steps.
         s.gap(0);
         s.burn(1, 0, 1);
@@ -268,6 +284,17 @@ final class EdgesOfPlaces extends Edge {
         due("sieve(1, 0)", s.sieve(1, 0), 2);
         s.gap(1);
         due("sieve(0, 1) by 1", s.sieve(0, 1), 0);
+        // Told the other way round, so that it is the WINDOW of the other one that is empty.
+        PassScreener r = Kit.skyOf("gap 0 size 0;" + Kit.body("n", 16, 16, 4, 0, 0, 1, 1, 9) + shuttle("d", 17, 0, 9));
+        due("sieve(0, 1) told the other way round", r.sieve(0, 1), 2);
+        // One TICK in a WINDOW is enough, whichever of both has it.
+        String narrow = Kit.body("a", 16, 17, 2, 0, 0, 0, 0, 9);
+        String wide = Kit.body("n", 16, 16, 2, 0, 0, 1, 1, 9);
+        for (String text : new String[] {narrow + wide, wide + narrow}) {
+            PassScreener one = Kit.skyOf("gap 0 size 0;" + text);
+            due("times(0, 1, -1) of <" + text + ">", one.times(0, 1, NONE), 1);
+            due("sieve(0, 1) of <" + text + ">", one.sieve(0, 1), 0);
+        }
         by(0, "3 TIMES: if at no TICK t of the CYCLE t mod TURN lies in the WINDOW for each of both.");
         // c stands upright: both are in the plane of the other when they are on the line of x, b a step later than c.
         PassScreener t = Kit.skyOf("gap 2 size 0;" + Kit.body("b", 4, 4, 4, 1, 0, 0, 0, 9)
@@ -343,6 +370,13 @@ final class EdgesOfPlaces extends Edge {
         due("closest(0, 1, 1)", s.closest(0, 1, 1), 0);
         s.ticks(5);
         due("closest(0, 1, 0): NOW counts for nothing", s.closest(0, 1, 0), 8);
+        // By TICKS 9 2 5 10 2 1 and on, none less: 1, by x alone, is less than 2.
+        PassScreener v = Kit.skyOf("gap 5 size 1;" + Kit.body("a", 1, 2, 7, 2, 3, 8, 3, 9)
+                + Kit.body("b", 3, 3, 3, 0, 1, 1, 0, 9));
+        due("far(0, 1, 4)", v.far(0, 1, 4), 2);
+        due("far(0, 1, 5)", v.far(0, 1, 5), 1);
+        due("closest(0, 1, 0): 1 is less than 2", v.closest(0, 1, 0), 5);
+        due("closest(0, 1, 1)", v.closest(0, 1, 1), 1);
         // Always alike: the first.
         PassScreener t = Kit.skyOf("gap 6 size 0;" + shuttle("a", 5, 0, 9) + shuttle("b", 11, 0, 9));
         due("closest(0, 1, 0): all are alike", t.closest(0, 1, 0), 0);

@@ -114,6 +114,13 @@ final class EdgesOfSight extends Edge {
         for (int k : new int[] {3, 8, -2, MAX, MIN}) {
             due("fits(" + k + ")", s.fits(k), NONE);
         }
+        // Twelve of 48 are in each QUARTER, but for what lies on a line between two.
+        PassScreener u = Kit.skyOf("gap 0 size 0;" + Kit.body("a", 48, 48, 48, 0, 0, 0, 0, 9));
+        seen(u, 0, 0, 0);
+        due("fits(-1) of 48", u.fits(NONE), 13);
+        due("fits(12) of 48", u.fits(12), 12);
+        due("fits(13) of 48", u.fits(13), NONE);
+        due("fits(MAX) of 48", u.fits(MAX), NONE);
         seen(s, 0, 0, 3);
         due("fits(-1): none fits", s.fits(NONE), 0);
         due("fits(0): none fits", s.fits(0), NONE);

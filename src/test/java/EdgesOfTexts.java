@@ -20,6 +20,7 @@ final class EdgesOfTexts extends Edge {
         edges.firstFault();
         edges.longTexts();
         edges.skies();
+        edges.skyBehindSky();
         edges.faults();
         edges.has();
         edges.letters();
@@ -358,6 +359,28 @@ final class EdgesOfTexts extends Edge {
         due("status(4)", u.status(4), 1);
     }
 
+    /** What was asked of a sky must not be answered of the next one, which has as many BODIES. */
+    private void skyBehindSky() {
+        by(4, "Without one all is as told");
+        String[] skies = {"gap 2 size 0;" + shuttle("a", 10, 0, 9) + shuttle("b", 12, 0, 0),
+            "gap 2 size 0;" + shuttle("a", 10, 0, 9) + shuttle("b", 19, 0, 0),
+            "gap 8 size 0;" + shuttle("a", 10, 0, 0) + shuttle("b", 18, 0, 9)};
+        int[][] rows = {{4, 1, 0, 0, 1, 0, NONE, 0}, {81, 0, 1, NONE, 0, NONE, NONE, NONE}, {64, 1, 0, 0, 1, NONE, 0, 0}};
+        PassScreener s = new PassScreener();
+        for (int k = 0; k < 6; k++) {
+            int[] row = rows[k % 3];
+            Kit.tell(s, skies[k % 3]);
+            due("closest(0, 1, 1) of sky " + k, s.closest(0, 1, 1), row[0]);
+            due("has(4) of sky " + k, s.has(4), row[1]);
+            due("sieve(0, 1) of sky " + k, s.sieve(0, 1), row[2]);
+            due("next(0) of sky " + k, s.next(0), row[3]);
+            due("threats(1) of sky " + k, s.threats(1), row[4]);
+            due("clears(0, 0) of sky " + k, s.clears(0, 0), row[5]);
+            due("clears(1, 0) of sky " + k, s.clears(1, 0), row[6]);
+            due("clearing(1) of sky " + k, s.clearing(1), row[7]);
+        }
+    }
+
     private void faults() {
         PassScreener s = new PassScreener();
         by(5, "its FAULT (what 0; 0 without, and ahead of any), its place (1; NONE without).");
@@ -460,6 +483,30 @@ final class EdgesOfTexts extends Edge {
             due("end(1): the tape is gone", s.end(1), false);
         }
         due("status(5): no refusal", s.status(5), 0);
+        // Every 7th and 8th letter behind a NAME of six, and every byte that is no letter, by itself and behind one.
+        PassScreener u = Kit.skyOf(GAP + "body abcdef" + REST + "body ad" + REST + "body z" + REST);
+        for (char more = 'a'; more <= 'z'; more++) {
+            Kit.tape(u, "abcdef" + more);
+            due("named() of <abcdef" + more + ">", u.named(), NONE);
+            Kit.tape(u, "abcdefd" + more);
+            due("named() of <abcdefd" + more + ">", u.named(), NONE);
+        }
+        for (int sign = 0; sign < 256; sign++) {
+            Kit.tape(u, sign);
+            due("named() of byte " + sign, u.named(), sign == 'z' ? 2 : NONE);
+            Kit.tape(u, 'a', sign);
+            due("named() of a and byte " + sign, u.named(), sign == 'd' ? 1 : NONE);
+        }
+        Kit.tell(u, ONE);
+        for (String gone : new String[] {"abcdef", "ad", "z"}) {
+            Kit.tape(u, gone);
+            due("named() of <" + gone + ">, which the sky ahead had", u.named(), NONE);
+        }
+        Kit.tell(u, GAP + tenBodies());
+        Kit.tape(u, "j");
+        due("named() of the last of ten", u.named(), 9);
+        Kit.tape(u, "k");
+        due("named() of none of ten", u.named(), NONE);
         PassScreener t = new PassScreener();
         Kit.tape(t, "a");
         due("named() without a sky", t.named(), NONE);
